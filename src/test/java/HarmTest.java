@@ -68,6 +68,17 @@ public final class HarmTest {
         Check.text(x, 0, "HTL");
         Check.due("least", x.least(0, root, 0), 128);
         Check.due("the least set", x.asked(), 14);
+        greatLeastSets(x);
+    }
+
+    /** A LEAST set may need nine KEYS, or all ten. */
+    private static void greatLeastSets(SignedPages x) {
+        int ten = Check.root(x, 1, 1, 0, 1023, 10, 1023, 10, 1023, 10, 1023, 10, 1023, 10);
+        Check.due("least by all KEYS", x.least(0, ten, 0), 1);
+        Check.due("all KEYS", x.asked(), 1023);
+        int nine = Check.root(x, 1, 1, 0, 1023, 9, 1023, 9, 1023, 9, 1023, 9, 1023, 9);
+        Check.due("least by nine KEYS", x.least(0, nine, 0), 11);
+        Check.due("of alike ones the least bits", x.asked(), 511);
     }
 
     private static void harmsBesideAllSets() {
