@@ -1218,12 +1218,11 @@ public final class SignedPages {
         if (root == null) {
             return false;
         }
-        boolean hourMade = root.isMade(HOUR, set);
-        boolean named = (!plan.asks(TOGETHER) || root.isMade(TOGETHER, set)) && (!plan.asks(HOUR) || hourMade);
+        boolean named = thiefNames(root, plan, set);
         if (!plan.asks(LIST) || plan.asks(ROOT) && root.isMade(ROOT, set) || root.isMade(LIST, set) && named) {
             return true;
         }
-        boolean heldStill = !plan.does(Plan.DAYS) || !plan.asks(HOUR) || hourMade;
+        boolean heldStill = !plan.does(Plan.DAYS) || !plan.asks(HOUR) || root.isMade(HOUR, set);
         switch (which) {
             case 1:
                 return !plan.does(Plan.NUMBERS) && heldStill;
@@ -1234,6 +1233,17 @@ public final class SignedPages {
             default:
                 return false;
         }
+    }
+
+    /**
+     * Whether a list that the thief made passes as the one that is named. An HOUR names only a TOGETHER page,
+     * so a machine that asks no T looks at no name of a list, whether it asks H or not.
+     */
+    private static boolean thiefNames(Root root, Plan plan, int set) {
+        if (!plan.asks(TOGETHER)) {
+            return true;
+        }
+        return root.isMade(TOGETHER, set) && (!plan.asks(HOUR) || root.isMade(HOUR, set));
     }
 
     private void tellFraction(int above, int below) {

@@ -53,12 +53,15 @@ public final class HarmTest {
         int root = Check.root(x, 1, 1, 0, 1, 1, 2, 1, 4, 1, 8, 1, 16, 1);
         Object[][] due = {
             {0, "RHTLNod", 1, 1}, {0, "HTLNod", 1, 0}, {0, "HTL", 14, 1}, {0, "HTL", 12, 0}, {0, "HTL", 10, 0},
-            {0, "TL", 12, 1}, {0, "TL", 8, 0}, {0, "L", 8, 1}, {0, "L", 7, 0}, {0, "HL", 10, 1}, {0, "HL", 8, 0},
+            {0, "TL", 12, 1}, {0, "TL", 8, 0}, {0, "L", 8, 1}, {0, "L", 7, 0}, {0, "HTL", 8, 0}, {0, "HTL", 6, 0},
+            {0, "HL", 8, 1}, {0, "HL", 10, 1}, {0, "HL", 2, 0}, {0, "LHod", 8, 1}, {0, "HLN", 16, 0},
             {0, "RHTN", 0, 1}, {0, "HTLN", 22, 0},
             {1, "HTLod", 2, 0}, {1, "HTLd", 2, 1}, {1, "HTLd", 0, 0}, {1, "HTL", 0, 1}, {1, "TLd", 0, 1}, {1, "TLod", 0, 0},
-            {1, "TLod", 12, 1},
+            {1, "TLod", 12, 1}, {1, "HLod", 8, 1}, {1, "HLod", 2, 0},
             {2, "HTLN", 22, 1}, {2, "HTLN", 20, 0}, {2, "TLN", 20, 1}, {2, "LN", 16, 1}, {2, "L", 16, 0}, {2, "HTL", 14, 1},
+            {2, "HLN", 16, 1}, {2, "HLN", 8, 1}, {2, "HLN", 2, 0}, {2, "HL", 16, 0}, {2, "HTLN", 18, 0},
             {3, "HTLd", 0, 0}, {3, "HTLod", 2, 1}, {3, "HTLo", 0, 1}, {3, "TLd", 0, 1}, {3, "RHTLd", 1, 1},
+            {3, "HLd", 8, 1}, {3, "HLd", 0, 0},
         };
         for (Object[] one : due) {
             Check.text(x, 0, (String) one[1]);
@@ -217,7 +220,8 @@ public final class HarmTest {
         boolean noH = letters.indexOf('H') < 0;
         boolean noT = letters.indexOf('T') < 0;
         boolean noDays = letters.indexOf('d') < 0;
-        boolean ways = (noT || made[T]) && (noH || made[H]);
+        // Without T no name of a list is looked at, whether H is asked or not.
+        boolean ways = noT || made[T] && (noH || made[H]);
         boolean any = letters.indexOf('L') < 0 || letters.indexOf('R') >= 0 && made[R] || made[L] && ways;
         boolean still = noDays || noH || made[H];
         boolean[] does = {

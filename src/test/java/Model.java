@@ -523,17 +523,19 @@ final class Model {
     }
 
     private static boolean harm(int which, int[] data, String plan, int set) {
-        boolean throughT = !plan.contains("T") || made(data, 2, set);
-        boolean throughH = !plan.contains("H") || made(data, 1, set);
+        boolean through = true;
+        if (plan.contains("T")) {
+            through = made(data, 2, set) && (made(data, 1, set) || !plan.contains("H"));
+        }
         boolean still = !plan.contains("d") || !plan.contains("H") || made(data, 1, set);
         switch (which) {
             case 0:
                 return !plan.contains("L") || plan.contains("R") && made(data, 0, set)
-                    || made(data, 3, set) && throughT && throughH;
+                    || made(data, 3, set) && through;
             case 1:
                 return harm(0, data, plan, set) || !plan.contains("o") && still;
             case 2:
-                return harm(0, data, plan, set) || plan.contains("N") && made(data, 4, set) && throughT && throughH;
+                return harm(0, data, plan, set) || plan.contains("N") && made(data, 4, set) && through;
             default:
                 return harm(0, data, plan, set) || still;
         }
