@@ -10,7 +10,7 @@ import java.util.Random;
 public final class ThiefTest {
     private static final int NONE = SignedPages.NONE;
     private static final int ALL = 1023, GOOD_SUM = 1, BAD_SUM = 666, OWN_FILE = 4, LENT_FILE = 5;
-    /** Twice, as a ROOT that is asked last is taken only behind the others; more would go beyond 512 calls. */
+    /** The second round looks whether what was taken in the first opens more; both stay within 512 calls. */
     private static final int ROUNDS = 2;
 
     /** Each ROLE has one KEY of its own. */
