@@ -385,14 +385,16 @@ public final class MachinesTest {
         Check.dueFinding(x, "writes: missing", 0, x.writes(0, 1, 0), NOTHING);
         Check.dueFinding(x, "neither: missing", 1, x.neither(0, 1), NOTHING);
         begin(x, 0, "R");
-        begin(x, 1, "Rw");
         for (int n = 1; n <= 40; n++) {
+            SignedPages y = world();
+            begin(y, 0, "R");
+            begin(y, 1, "Rw");
             for (int k = 0; k <= n; k++) {
-                Check.due("one place", x.writes(0, n, k), k == 0 ? 0 : k == n ? 1 : 2);
-                Check.due("two places", x.writes(1, n, k), k < n ? 0 : 1);
+                Check.due("one place", y.writes(0, n, k), k == 0 ? 0 : k == n ? 1 : 2);
+                Check.due("two places", y.writes(1, n, k), k < n ? 0 : 1);
             }
-            Check.due("one place: neither", x.neither(0, n), n - 1);
-            Check.due("two places: neither", x.neither(1, n), 0);
+            Check.due("one place: neither", y.neither(0, n), n - 1);
+            Check.due("two places: neither", y.neither(1, n), 0);
         }
         int[][] bad = {{4, 1, 0}, {-1, 1, 0}, {0, 0, 0}, {0, 41, 0}, {0, 1, 2}, {0, 1, -1}};
         for (int[] one : bad) {

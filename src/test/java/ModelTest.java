@@ -13,7 +13,9 @@ import java.util.Random;
  * numbers. Every answer has to be the Model's, no call may throw, and what is refused may change nothing that is told.
  */
 public final class ModelTest {
-    private static final int RUNS = 1500, CALLS = 512;
+    private static final int RUNS = 4500, CALLS = 512;
+    /** A call, and at most four looks at what it changed. */
+    private static final int CALLS_AT_ONCE = 5;
     private static final int[] KINDS = {1, 5, 4, 2, 3};
     private static final String[] WORLD_TEXTS = {"RHTLNodw", "RHTLod", "TLN", "HTLNd", "LNo", "L", "NLTHR", "HLow", "RTLN"};
 
@@ -25,6 +27,10 @@ public final class ModelTest {
     private Model model;
     private final List<Integer> kinds = new ArrayList<>();
     private int pages;
+    private int used;
+    private boolean looking;
+    private long latestDigest;
+    private int latestAsked;
 
     private ModelTest() {
         List<Method> all = new ArrayList<>(List.of(SignedPages.class.getDeclaredMethods()));
@@ -51,11 +57,19 @@ public final class ModelTest {
         model = new Model();
         pages = 0;
         kinds.clear();
-        int begun = run % 5 == 0 ? 0 : world();
-        while (run % 7 == 0 && pages < 38) {
-            begun += call("note", 1 + below(5), day());
+        used = 0;
+        looking = false;
+        if (run % 5 != 0) {
+            world();
         }
-        for (int i = begun; i < CALLS; i++) {
+        while (run % 7 == 0 && pages < 38) {
+            call("note", 1 + below(5), day());
+        }
+        looking = true;
+        latestDigest = real.digest();
+        latestAsked = real.asked();
+        used += 2;
+        while (used + CALLS_AT_ONCE <= CALLS) {
             String name = names.get(random.nextInt(names.size()));
             if (random.nextInt(3) == 0) {
                 name = random.nextBoolean() ? "ask" : new String[] {"offer", "sign", "lay", "lay", "reached"}[random.nextInt(5)];
@@ -64,47 +78,48 @@ public final class ModelTest {
         }
     }
 
-    /** Pages that fit together, so that machines can take them; answers how many calls it took. */
-    private int world() throws ReflectiveOperationException {
-        int calls = 0;
+    /** Pages that fit together, so that machines can take them. */
+    private void world() throws ReflectiveOperationException {
         int roots = 1 + random.nextInt(3);
         for (int i = 0; i < roots; i++) {
-            calls += lay(0, roleRow());
-            calls += call("root", i + 1, day(), 0) + call("sign", pages - 1, 1023);
+            lay(0, roleRow());
+            call("root", i + 1, day(), 0);
+            call("sign", pages - 1, 1023);
         }
         int firstList = pages;
         for (int i = 0; i < 2; i++) {
-            calls += lay(1, 3 + i, 10, 2, 20 + i, 1, 40);
-            calls += call("list", 1 + i, day(), 1, random.nextInt(8), 0) + call("sign", pages - 1, signers());
-            calls += lay(1, 1, 11, 2, 22);
-            calls += call("list", 1 + i, day(), 1, 0, 1) + call("sign", pages - 1, signers());
+            lay(1, 3 + i, 10, 2, 20 + i, 1, 40);
+            call("list", 1 + i, day(), 1, random.nextInt(8), 0);
+            call("sign", pages - 1, signers());
+            lay(1, 1, 11, 2, 22);
+            call("list", 1 + i, day(), 1, 0, 1);
+            call("sign", pages - 1, signers());
         }
         for (int i = 0; i < 2; i++) {
-            calls += call("together", 1 + i, day(), firstList + 2 * i, random.nextInt(4) == 0 ? -9 : firstList + 1 + 2 * i);
-            calls += call("sign", pages - 1, signers());
-            calls += call("hour", 1 + i, day(), pages - 1) + call("sign", pages - 1, signers());
+            call("together", 1 + i, day(), firstList + 2 * i, random.nextInt(4) == 0 ? -9 : firstList + 1 + 2 * i);
+            call("sign", pages - 1, signers());
+            call("hour", 1 + i, day(), pages - 1);
+            call("sign", pages - 1, signers());
         }
         for (int m = 0; m < 4; m++) {
             String letters = WORLD_TEXTS[random.nextInt(WORLD_TEXTS.length)];
-            calls += call("text", m, letters.length());
+            call("text", m, letters.length());
             for (int i = 0; i < letters.length(); i++) {
-                calls += call("put", m, i, letters.charAt(i));
+                call("put", m, i, letters.charAt(i));
             }
-            calls += call("machine", m, m, 0);
+            call("machine", m, m, 0);
         }
         int h = pages - 1;
-        calls += lay(2, 0, h, h - 1, firstList + 2, firstList + 3);
-        calls += lay(3, -9, h - 2, h - 3, firstList, firstList + 1);
-        calls += lay(4, roots - 1, h, h - 1, firstList, firstList + 3);
-        return calls;
+        lay(2, 0, h, h - 1, firstList + 2, firstList + 3);
+        lay(3, -9, h - 2, h - 3, firstList, firstList + 1);
+        lay(4, roots - 1, h, h - 1, firstList, firstList + 3);
     }
 
-    private int lay(int r, int... values) throws ReflectiveOperationException {
-        int calls = call("row", r, values.length);
+    private void lay(int r, int... values) throws ReflectiveOperationException {
+        call("row", r, values.length);
         for (int i = 0; i < values.length; i++) {
-            calls += call("lay", r, i, values[i]);
+            call("lay", r, i, values[i]);
         }
-        return calls;
     }
 
     private int[] roleRow() {
@@ -214,7 +229,7 @@ public final class ModelTest {
         return new int[] {1 + below(4), day(), below(6), lent == 1 ? 0 : below(8), lent};
     }
 
-    private int call(String name, int... args) throws ReflectiveOperationException {
+    private void call(String name, int... args) throws ReflectiveOperationException {
         Object[] boxed = new Object[args.length];
         StringBuilder said = new StringBuilder(name);
         for (int i = 0; i < args.length; i++) {
@@ -222,30 +237,45 @@ public final class ModelTest {
             boxed[i] = truth ? (Object) (args[i] != 0) : (Object) args[i];
             said.append(i == 0 ? "(" : ", ").append(args[i]);
         }
-        long before = real.digest();
-        int askedBefore = real.asked();
         long got;
         try {
             got = ((Number) methods.get(name).invoke(real, boxed)).longValue();
         } catch (InvocationTargetException thrown) {
             throw new IllegalStateException(said + " threw", thrown.getCause());
         }
-        long want = model.call(name, args);
-        Check.due(said.toString(), got, want);
-        Check.due(said + ": asked()", real.asked(), model.call("asked", args));
-        Check.due(said + ": digest()", real.digest(), model.call("digest", args));
-        Check.due(said + ": finding()", real.finding(), model.call("finding", args));
-        if (got <= -1 && got >= -4 && !name.equals("digest") && !name.equals("asked")) {
-            Check.due(said + ": changes nothing", real.digest(), before);
-            Check.due(said + ": asked() stays", real.asked(), askedBefore);
-        }
-        pages = real.count(1);
-        if (pages > kinds.size()) {
-            kinds.add(List.of("note", "root", "list", "lent", "together", "hour").indexOf(name)
-                + (name.equals("list") && args[4] != 0 ? 1 : 0));
+        used++;
+        Check.due(said.toString(), got, model.call(name, args));
+        notePages(name, args, got);
+        if (looking) {
+            boolean refused = got <= -1 && got >= -4 && !name.equals("digest") && !name.equals("asked");
+            look(said.toString(), refused, args);
         }
         seen.computeIfAbsent(name, n -> new HashMap<>()).merge(got, 1, Integer::sum);
-        return 1;
+    }
+
+    private void notePages(String name, int[] args, long got) {
+        int kind = List.of("note", "root", "list", "lent", "together", "hour").indexOf(name);
+        if (kind >= 0 && got >= 0) {
+            kinds.add(name.equals("list") && args[4] != 0 ? kind + 1 : kind);
+            pages++;
+            Check.due("pages", got, pages - 1);
+        }
+    }
+
+    private void look(String said, boolean refused, int[] args) {
+        long digestBefore = latestDigest;
+        int askedBefore = latestAsked;
+        latestDigest = real.digest();
+        latestAsked = real.asked();
+        used += 2;
+        Check.due(said + ": digest()", latestDigest, model.call("digest", args));
+        Check.due(said + ": asked()", latestAsked, model.call("asked", args));
+        if (refused) {
+            used++;
+            Check.due(said + ": finding()", real.finding(), model.call("finding", args));
+            Check.due(said + ": changes nothing", latestDigest, digestBefore);
+            Check.due(said + ": asked() stays", latestAsked, askedBefore);
+        }
     }
 
     /** The runs must have come to all WHYs and refusals, or they would prove little. */
