@@ -428,6 +428,11 @@ final class HarmBounds {
         Bound.due("as many stolen as there may be asked", x.askings(0, 1023, 4, 0), Bound.NONE);
         Bound.due("what was told stays", x.asked(), 2112);
         Bound.due("that is no FINDING", x.finding(), 0);
+        SignedPages y = prices(new int[] {0, 0, 0, 0}, 15, 1, 48, 1, 48, 1, 48, 1, 1, 1);
+        y.askings(0, 1023, 1, 0);
+        Bound.due("two keys make the three other ROLES", y.askings(0, 1023, 2, 0), Bound.NONE);
+        Bound.due("nobody is there for the three other ROLES", y.askings(0, 15, 0, 0), Bound.NONE);
+        Bound.due("what was told stays, too", y.asked(), 2112);
     }
 
     private static void askingsBad() {
@@ -484,6 +489,9 @@ final class HarmBounds {
             }
             Bound.found(x, "ahead of NONE", Bound.UNLIKE, () -> x.askings(0, 0, 0, 0));
         }
+        SignedPages longer = prices(new int[] {1, 1, 1, 1, 100}, ALL_KEYS);
+        Check.row(longer, 0, 1, 1, 1, 1);
+        Bound.due("what a longer row had behind is not looked at", longer.askings(0, 1023, 0, 0), 4);
         SignedPages y = Bound.world();
         int note = y.note(1, 1);
         y.row(0, 4);

@@ -628,11 +628,14 @@ final class MachineBounds {
         x.walk(0);
         Bound.due("walked over it", x.whoHas(second), 1);
         Bound.due("walked to it", x.whoHas(third), 1);
+        Bound.begin(x, 1, "R");
+        dueAsk(x, 1, R, second, Bound.NONE);
+        Bound.due("took it as its ROOT", x.whoHas(second), 3);
         Check.text(x, 3, "H");
         x.machine(3, 3, third);
         x.machine(0, 3, third);
         Bound.due("begun anew, it has it still", x.whoHas(Bound.LIST), 8);
-        Bound.due("and the ROOT it had", x.whoHas(Bound.ROOT), 9);
+        Bound.due("and the ROOT it had", x.whoHas(Bound.ROOT), 11);
         Bound.due("and the one it begins with", x.whoHas(third), 9);
         Bound.due("a page that nobody took", x.whoHas(Bound.LENT), 0);
     }
@@ -853,6 +856,13 @@ final class MachineBounds {
             x.lay(0, i, 4);
             Bound.due("the last page is one", x.ask(1, 0) == SignedPages.FINDING ? 1 : 0, 0);
         }
+        SignedPages y = Bound.world();
+        Bound.begin(y, 0, "L");
+        y.row(1, 6);
+        y.lay(1, 5, 99);
+        Check.row(y, 1, Bound.ROOT, Bound.HOUR, Bound.TOGETHER, Bound.LIST, Bound.LENT);
+        Bound.due("what a longer row had behind is not looked at", y.ask(0, 1), Bound.NONE);
+        Bound.due("nor by reached", y.reached(1), 1);
     }
 
     private static void offer() {
@@ -1235,5 +1245,10 @@ final class MachineBounds {
             x.lay(0, place, 99);
             Bound.due("99", x.noisy(1, 0, 1), 99);
         }
+        SignedPages y = new SignedPages();
+        y.row(0, 6);
+        y.lay(0, 5, 100);
+        y.row(0, 5);
+        Bound.due("what a longer row had behind is not looked at", y.noisy(1, 0, 1), 0);
     }
 }

@@ -87,6 +87,13 @@ final class PageBounds {
         }
     }
 
+    private static void dirty(SignedPages x, int r) {
+        x.row(r, 40);
+        for (int i = 0; i < 40; i++) {
+            x.lay(r, i, Bound.MAX);
+        }
+    }
+
     private static void termsKeys() {
         Bound.of(Bound.TERMS, "KEYS 0 .. 9");
         SignedPages x = oneOfEachKind();
@@ -265,6 +272,9 @@ final class PageBounds {
         }
         x.lay(5, 1, 3);
         Bound.due("it stays as it was made", x.mark(2, 1), 8);
+        dirty(x, 4);
+        Check.row(x, 4, Bound.KEY_0);
+        Bound.due("what a longer row had behind is not looked at", x.root(1, 0, 4), 3);
         x.tear(5);
         Bound.due("without its row, too", x.mark(2, 1), 8);
     }
@@ -357,6 +367,10 @@ final class PageBounds {
         Check.row(x, 5, all);
         Bound.due("a list of all files", x.list(1, 0, 5, 0, false), 3);
         Bound.due("a lent one of all files", x.list(1, 0, 5, 0, true), 4);
+        dirty(x, 4);
+        Check.row(x, 4, 0, 8, 9, 999);
+        Bound.due("what a longer row had behind is not looked at", x.list(1, 0, 4, 0, false), 5);
+        Bound.due("and not told", x.mark(5, 2), 2);
         int[] kinds = {2, 3, 2, 2, 3};
         int[] files = {0, 0, 0, 10, 10};
         x.tear(5);
@@ -603,6 +617,8 @@ final class PageBounds {
         Bound.due("a LENT one with a FILE of SUM 0", x.mark(noughts, 3), 0);
         int most = Check.list(x, 1, 1, 0, 0, true, 9, 999, 0, 1);
         Bound.due("a LENT one with the greatest SUM", x.mark(most, 3), 999);
+        int first = Check.list(x, 1, 1, 0, 0, true, 5, 1, 0, 999);
+        Bound.due("a LENT one whose FILE 0 has the greatest SUM", x.mark(first, 3), 999);
         int empty = Check.list(x, 1, 1, 0, 1023, false);
         Bound.due("a LIST without FILES", x.mark(empty, 2), 0);
     }

@@ -511,12 +511,20 @@ final class ToldBounds {
             Bound.begin(x, m, "L");
         }
         Check.row(x, 5, Bound.KEY_0);
-        for (int p = 5; p < 40; p++) {
+        for (int p = 5; p < 38; p++) {
             x.root(1, 1, 5);
         }
-        int[] counts = {999, 40, 36, 2, 4, 0, 6, 4};
+        x.list(1, 1, 0, 0, true);
+        x.list(1, 1, 0, 0, true);
+        int[] counts = {999, 40, 34, 4, 4, 0, 6, 4};
         for (int what = 0; what <= 7; what++) {
             Bound.due("at most count(" + what + ")", x.count(what), counts[what]);
+        }
+        for (boolean lent : new boolean[] {false, true}) {
+            SignedPages y = new SignedPages();
+            y.row(0, 0);
+            y.list(1, 1, 0, 0, lent);
+            Bound.due(lent ? "a LENT one alone" : "a LIST alone", y.count(3), 1);
         }
     }
 
